@@ -15,6 +15,8 @@ public final class WidthMinimizer {
     private static final int MAX_CYCLES = 200;
     private static final int INT_BITS = 32;
     private static final int ALL_BITS = -1;
+    private static final int LEAST_INT = -2147483648;
+    private static final int GREATEST_INT = 2147483647;
 
     private static final int INPUT = 0;
     private static final int CONSTANT = 1;
@@ -191,7 +193,7 @@ public final class WidthMinimizer {
     public int width(int signal, boolean isOfRange) throws IndexOutOfBoundsException {
         requireSignal(signal);
         analyse();
-        return isOfRange ? ranges.widthOf(signal) : widths.narrow[signal];
+        return isOfRange ? ranges.bitsOf[signal] : widths.narrow[signal];
     }
 
     /** Returns whether a signal is narrowed signed. */
@@ -298,6 +300,7 @@ public final class WidthMinimizer {
         if (cycles < 1 || cycles > MAX_CYCLES) {
             throw new IllegalArgumentException("the number of cycles is not from 1 to 200");
         }
+        analyse();
         for (int cycle = 0; cycle < cycles; cycle++) {
             settleBoth();
             circuit.takeOver(circuit.fullHeld, fullMachine.now);
@@ -311,6 +314,7 @@ public final class WidthMinimizer {
     /** Returns the value of a signal now. */
     public int value(int signal, boolean isNarrowed) throws IndexOutOfBoundsException {
         requireSignal(signal);
+        analyse();
         settleBoth();
         return isNarrowed ? narrowedMachine.now[signal] : fullMachine.now[signal];
     }
@@ -421,8 +425,8 @@ public final class WidthMinimizer {
         return sum;
     }
 
+    /** The caller has analysed the circuit. */
     private void settleBoth() {
-        analyse();
         fullMachine.settle(circuit, circuit.fullHeld);
         narrowedMachine.settleNarrowed(circuit, circuit.narrowedHeld, widths);
     }
@@ -668,6 +672,7 @@ public final class WidthMinimizer {
 
         final int[] least = new int[MAX_SIGNALS];
         final int[] greatest = new int[MAX_SIGNALS];
+        final int[] bitsOf = new int[MAX_SIGNALS];
         int roundCount = 0;
 
         void find(Circuit circuit) {
@@ -682,11 +687,19 @@ public final class WidthMinimizer {
                 for (int i = 0; i < circuit.size; i++) {
                     findOne(circuit, i);
                 }
-                hasChanged = joinRegisters(circuit);
+                hasChanged = false;
+                for (int i = 0; i < circuit.size; i++) {
+                    if (circuit.kind[i] == REGISTER && join(i, circuit.next[i])) {
+                        hasChanged = true;
+                    }
+                }
+            }
+            for (int i = 0; i < circuit.size; i++) {
+                bitsOf[i] = widthOf(i);
             }
         }
 
-        int widthOf(int i) {
+        private int widthOf(int i) {
             if (isSignedRange(i)) {
                 return bitLength(Math.max(~least[i], greatest[i])) + 1;
             }
@@ -734,9 +747,9 @@ public final class WidthMinimizer {
         }
 
         private void become(int i, long newLeast, long newGreatest) {
-            boolean isInt = newLeast >= Integer.MIN_VALUE && newGreatest <= Integer.MAX_VALUE;
-            least[i] = isInt ? (int) newLeast : Integer.MIN_VALUE;
-            greatest[i] = isInt ? (int) newGreatest : Integer.MAX_VALUE;
+            boolean isInt = newLeast >= LEAST_INT && newGreatest <= GREATEST_INT;
+            least[i] = isInt ? (int) newLeast : LEAST_INT;
+            greatest[i] = isInt ? (int) newGreatest : GREATEST_INT;
         }
 
         private void findProduct(int i, int a, int b) {
@@ -774,17 +787,7 @@ public final class WidthMinimizer {
             }
         }
 
-        /** Lets each register in turn take in the range of its next signal. */
-        private boolean joinRegisters(Circuit circuit) {
-            boolean hasChanged = false;
-            for (int i = 0; i < circuit.size; i++) {
-                if (circuit.kind[i] == REGISTER && join(i, circuit.next[i])) {
-                    hasChanged = true;
-                }
-            }
-            return hasChanged;
-        }
-
+        /** Lets a register take in the range of its next signal; tells whether its own changed. */
         private boolean join(int register, int next) {
             boolean isWidening = roundCount >= FIRST_WIDENING_ROUND;
             int low = least[next];
@@ -839,12 +842,12 @@ public final class WidthMinimizer {
             }
             for (int i = 0; i < circuit.size; i++) {
                 narrow[i] = bitLength(bits[i]);
-                isNarrowSigned[i] = ranges.isSignedRange(i) && narrow[i] == ranges.widthOf(i);
+                isNarrowSigned[i] = ranges.isSignedRange(i) && narrow[i] == ranges.bitsOf[i];
             }
         }
 
         private void ask(Ranges ranges, int i, int asked) {
-            int widthOfRange = ranges.widthOf(i);
+            int widthOfRange = ranges.bitsOf[i];
             int folded = asked & lowestBits(widthOfRange);
             int signPlace = widthOfRange - 1;
             if (ranges.isSignedRange(i) && asked >>> signPlace != 0) {
@@ -867,7 +870,8 @@ public final class WidthMinimizer {
                 case SUM:
                 case DIFFERENCE:
                 case PRODUCT:
-                    askBoth(ranges, i, circuit, lowestBits(bitLength(own)));
+                    ask(ranges, a, lowestBits(bitLength(own)));
+                    ask(ranges, b, lowestBits(bitLength(own)));
                     break;
                 case AND:
                     ask(ranges, a, own & maskOf(circuit, b));
@@ -875,7 +879,8 @@ public final class WidthMinimizer {
                     break;
                 case OR:
                 case EXCLUSIVE_OR:
-                    askBoth(ranges, i, circuit, own);
+                    ask(ranges, a, own);
+                    ask(ranges, b, own);
                     break;
                 case SHIFT_LEFT:
                     ask(ranges, a, own >>> b);
@@ -884,7 +889,8 @@ public final class WidthMinimizer {
                     ask(ranges, a, beforeShiftRight(own, b));
                     break;
                 case LESS:
-                    askBoth(ranges, i, circuit, ALL_BITS);
+                    ask(ranges, a, ALL_BITS);
+                    ask(ranges, b, ALL_BITS);
                     break;
                 case CHOICE:
                     ask(ranges, a, ALL_BITS);
@@ -896,11 +902,6 @@ public final class WidthMinimizer {
             }
         }
 
-        private void askBoth(Ranges ranges, int i, Circuit circuit, int asked) {
-            ask(ranges, circuit.a[i], asked);
-            ask(ranges, circuit.b[i], asked);
-        }
-
         /** The bits that an "and" with this signal can let through. */
         private static int maskOf(Circuit circuit, int i) {
             return circuit.kind[i] == CONSTANT ? circuit.a[i] : ALL_BITS;
@@ -908,7 +909,7 @@ public final class WidthMinimizer {
 
         private static int beforeShiftRight(int own, int shift) {
             boolean usesSign = own >>> (INT_BITS - 1 - shift) != 0;
-            return own << shift | (usesSign ? Integer.MIN_VALUE : 0);
+            return own << shift | (usesSign ? LEAST_INT : 0);
         }
 
         /** What the lowest bits of a number, as many as the signal is wide, represent. */
@@ -1012,7 +1013,9 @@ public final class WidthMinimizer {
             int bestIncrease = costFor(wantedKind, width);
             for (int unit = 0; unit < size; unit++) {
                 if (kind[unit] == wantedKind && (phases[unit] & phaseBit) == 0) {
-                    int increase = increaseOf(unit, width);
+                    int together = Math.max(widest[unit], width);
+                    int increase = costWith(unit, together, members[unit] + 1)
+                            - costWith(unit, widest[unit], members[unit]);
                     if (increase < bestIncrease) {
                         best = unit;
                         bestIncrease = increase;
@@ -1020,11 +1023,6 @@ public final class WidthMinimizer {
                 }
             }
             return best;
-        }
-
-        private int increaseOf(int unit, int width) {
-            int together = Math.max(widest[unit], width);
-            return costWith(unit, together, members[unit] + 1) - costOf(unit);
         }
 
         private int costWith(int unit, int width, int number) {

@@ -90,6 +90,9 @@ public final class RangeTest {
         over(6, from(-1, -1), from(-1, -1), -1, 0);
         over(7, from(-3, 12), from(5, 9), -16, 15);
         over(8, from(2, 3), from(-17, 9), -32, 31);
+        over(8, from(-17, 9), from(2, 3), -32, 31);
+        over(8, from(-17, 9), from(-40, 9), -64, 63);
+        over(8, from(-40, 9), from(-17, 9), -64, 63);
         over(8, from(2, 3), from(-16, 9), -16, 15);
         over(7, from(-1, 0), from(0, 1), -2, 1);
         over(7, from(-1, 16), from(0, 1), -32, 31);
@@ -122,6 +125,13 @@ public final class RangeTest {
             add(12, 8, 0, 1) = 9
             range(9, false) = -5
             range(9, true) = 9
+            add(12, 8, 1, 0) = 10
+            range(10, false) = -5
+            range(10, true) = 9
+            add(0, 1, 2, 0) = 11
+            add(12, 11, 0, 1) = 12
+            range(12, false) = 3
+            range(12, true) = 9
             """);
     }
 
@@ -196,6 +206,42 @@ public final class RangeTest {
             range(0, false) = -20
             range(0, true) = 63
             rounds() = 2
+            """);
+        Script.run("promise 11: a least value that falls above 0 becomes 0", """
+            add(2, 100, 0, 0) = 0
+            add(10, 0, 1, 0) = 1
+            setNext(0, 1) = 0
+            # 50, 25, 12, then 6 in the fourth round.
+            rounds() = 5
+            range(0, false) = 0
+            range(0, true) = 100
+            width(0, true) = 7
+            """);
+        Script.run("promise 11: a least value that falls to 0 stays there", """
+            add(2, 8, 0, 0) = 0
+            add(10, 0, 1, 0) = 1
+            setNext(0, 1) = 0
+            # 4, 2, 1, then 0 in the fourth round.
+            rounds() = 5
+            range(0, false) = 0
+            range(0, true) = 8
+            """);
+        Script.run("promise 11: powers of two are kept", """
+            add(1, -16, 0, 0) = 0
+            add(1, 15, 0, 0) = 1
+            add(0, 0, 1, 0) = 2
+            add(12, 2, 0, 1) = 3
+            add(2, 0, 0, 0) = 4
+            add(2, 0, 0, 0) = 5
+            add(2, 0, 0, 0) = 6
+            add(2, 0, 0, 0) = 7
+            setNext(4, 5) = 4
+            setNext(5, 6) = 5
+            setNext(6, 7) = 6
+            setNext(7, 3) = 7
+            rounds() = 5
+            range(4, false) = -16
+            range(4, true) = 15
             """);
         Script.run("promise 11: a greatest value that rises below 0 becomes 0", """
             add(2, -100, 0, 0) = 0

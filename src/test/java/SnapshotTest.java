@@ -48,6 +48,19 @@ public final class SnapshotTest {
             run(1) = 0
             value(1, false) = 135
             """);
+        Script.run("promise 29: all operands", """
+            add(1, 1, 0, 0) = 0
+            add(1, 2, 0, 0) = 1
+            add(1, 3, 0, 0) = 2
+            add(12, 1, 0, 2) = 3
+            saveSnapshot() = 4
+            removeLast() = 12
+            add(12, 2, 1, 1) = 3
+            restoreSnapshot() = 4
+            signal(3, 1) = 1
+            signal(3, 2) = 0
+            signal(3, 3) = 2
+            """);
         Script.run("promise 29: the number of cycles belongs to the state", circuit + """
             saveSnapshot() = 3
             restart() = 6

@@ -96,6 +96,17 @@ public final class TextTest {
             text("i2:9;0+1") = 8
             read() = 2
             value(2, false) = 6
+            text("0?1:2;0l3;o0;k3;r4") = 18
+            read() = 5
+            text("i2:3;i2:3;r2;n7:0;k6") = 20
+            read() = -1
+            text("i2:3;i2:3;r2;n9:0;k6") = 20
+            read() = 5
+            signal(7, 0) = 0
+            signal(8, 2) = 3
+            signal(9, 0) = 2
+            signal(10, 1) = 6
+            signal(10, 2) = 0
             """);
     }
 

@@ -3,7 +3,9 @@ public final class WidthTest {
     public static void main(String[] args) {
         folding();
         demandOfKinds();
+        choiceAsksBoth();
         demandOfRegisters();
+        registerFirst();
         costs();
         totals();
         units();
@@ -185,6 +187,44 @@ public final class WidthTest {
             demanded(1) = 5
             demanded(6) = 5
             """);
+    }
+
+    private static void choiceAsksBoth() {
+        Script.run("promise 12: a choice asks D of both its values", """
+            add(0, 0, 1, 0) = 0
+            add(0, 0, 900, 0) = 1
+            add(0, 0, 900, 0) = 2
+            add(12, 0, 1, 2) = 3
+            add(1, 5, 0, 0) = 4
+            add(6, 3, 4, 0) = 5
+            setOutput(5, true) = false
+            isSigned(1) = false
+            demanded(1) = 5
+            demanded(2) = 5
+            demanded(0) = 1
+            """);
+    }
+
+    private static void registerFirst() {
+        String circuit = """
+            add(2, -9, 0, 0) = 0
+            add(5, 0, 0, 0) = 1
+            add(5, 0, 0, 0) = 2
+            setPhase(2, 1) = 0
+            setOutput(1, true) = false
+            setOutput(2, true) = false
+            setOutput(0, true) = false
+            """;
+        String[] questions = {
+            "isSigned(0) = true", "cost(0) = 20", "total(0) = 118", "total(1) = 2176", "total(2) = 76",
+            "total(3) = 19", "total(4) = 0", "units() = 1", "unit(0, 2) = 56", "unitOf(2) = 0",
+            "demanded(0) = 31", "width(0, true) = 5", "rounds() = 1", "range(1, true) = 81",
+            "share() = " + 118.0 / 2176.0, "value(1, true) = 81", "run(2) = 0",
+        };
+        for (String question : questions) {
+            Script.run("promises 10 to 20: the first question after a change, " + question,
+                    circuit + question + "\n");
+        }
     }
 
     private static void demandOfRegisters() {
