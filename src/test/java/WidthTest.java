@@ -166,6 +166,46 @@ public final class WidthTest {
             demanded(1) = 131071
             demanded(0) = 3
             """);
+        Script.run("promise 12: a shift to the right asks for the sign only if it is used", """
+            add(0, -4096, 4095, 0) = 0
+            add(9, 0, 15, 0) = 1
+            add(9, 1, 15, 0) = 2
+            add(10, 2, 15, 0) = 3
+            add(10, 3, 4, 0) = 4
+            add(1, 2048, 0, 0) = 5
+            add(6, 4, 5, 0) = 6
+            add(10, 3, 5, 0) = 7
+            add(6, 7, 5, 0) = 8
+            setOutput(6, true) = false
+            demanded(4) = 2048
+            demanded(3) = 32768
+            demanded(2) = 1073741824
+            demanded(1) = 32768
+            demanded(0) = 1
+            setOutput(6, false) = true
+            setOutput(8, true) = false
+            demanded(3) = 65536
+            demanded(2) = -2147483648
+            demanded(1) = 65536
+            demanded(0) = 2
+            """);
+        Script.run("promise 12: both operands of or and of exclusive or", """
+            add(0, -1000, 1000, 0) = 0
+            add(0, -1000, 1000, 0) = 1
+            add(1, 9, 0, 0) = 2
+            add(7, 0, 1, 0) = 3
+            add(6, 3, 2, 0) = 4
+            add(8, 0, 1, 0) = 5
+            add(6, 5, 2, 0) = 6
+            setOutput(4, true) = false
+            demanded(0) = 9
+            demanded(1) = 9
+            setOutput(4, false) = true
+            demanded(1) = 0
+            setOutput(6, true) = false
+            demanded(0) = 9
+            demanded(1) = 9
+            """);
         Script.run("promise 12: less and choice", """
             add(0, -9, 9, 0) = 0
             add(0, 0, 900, 0) = 1
