@@ -1,13 +1,11 @@
-import java.lang.reflect.InvocationTargetException;
-import java.lang.reflect.Method;
 import java.util.ArrayList;
 import java.util.List;
 
 /**
  * Runs of calls as a text, a call with its due answer on each line: "add(0, 0, 9, 0) = 0".
- * An exception is due as "throws.ItsName"; text("k5;r0") feeds each character and answers the
- * last length; a line behind # is a comment. A line that begins with ! also checks that the call
- * leaves unchanged all that can be asked without a change.
+ * An exception is due as "throws.ItsName"; MIN and MAX are the ends of the ints; text("k5;r0") feeds
+ * each character and answers the last length; a line behind # is a comment. A line that begins with
+ * ! also checks that the call leaves the whole state unchanged.
  */
 final class Script {
     private static final int MAX_CALLS = 512;
@@ -15,13 +13,18 @@ final class Script {
 
     private final String name;
     private final WidthMinimizer object = new WidthMinimizer();
-    private int calls = 0;
+    private final List<Call> calls = new ArrayList<>();
 
     private Script(String name) {
         this.name = name;
     }
 
     static void run(String name, String lines) {
+        callsOf(name, lines);
+    }
+
+    /** Runs the lines and returns their calls, for a Probe. */
+    static List<Call> callsOf(String name, String lines) {
         Script script = new Script(name);
         for (String line : lines.split("\n")) {
             String trimmed = line.trim();
@@ -29,9 +32,10 @@ final class Script {
                 script.line(trimmed);
             }
         }
-        if (script.calls > MAX_CALLS) {
+        if (script.calls.size() > MAX_CALLS) {
             report(name + ": has more than 512 calls");
         }
+        return script.calls;
     }
 
     static void report(String message) {
@@ -52,79 +56,29 @@ final class Script {
         int split = rest.lastIndexOf(") = ") + 1;
         String call = rest.substring(0, split);
         String due = rest.substring(split + 3).trim();
-        String before = mustKeep ? everything() : "";
+        String before = mustKeep ? Probe.after(calls) : "";
         String got = answer(call);
-        if (!got.equals(due)) {
+        if (!got.equals(due.equals("MIN") ? "-2147483648" : due.equals("MAX") ? "2147483647" : due)) {
             report(name + ": " + call + " answered " + got + ", due is " + due);
         }
-        if (mustKeep && !everything().equals(before)) {
+        if (mustKeep && !Probe.after(calls).equals(before)) {
             report(name + ": " + call + " changed the state");
         }
     }
 
     private String answer(String call) {
-        int open = call.indexOf('(');
-        String method = call.substring(0, open);
-        String arguments = call.substring(open + 1, call.length() - 1);
-        if (method.equals("text")) {
-            String last = "";
-            for (char character : arguments.substring(1, arguments.length() - 1).toCharArray()) {
-                last = answerOf("feed", List.of((Object) character));
-            }
-            return last;
+        if (!call.startsWith("text(")) {
+            return make(Call.read(call));
         }
-        List<Object> parsed = new ArrayList<>();
-        if (arguments.startsWith("'")) {
-            parsed.add(arguments.charAt(1));
-        } else if (!arguments.isEmpty()) {
-            for (String argument : arguments.split(",")) {
-                parsed.add(parse(argument.trim()));
-            }
+        String last = "";
+        for (char character : call.substring("text(\"".length(), call.length() - 2).toCharArray()) {
+            last = make(new Call("feed", character));
         }
-        return answerOf(method, parsed);
+        return last;
     }
 
-    private static Object parse(String argument) {
-        if (argument.equals("true") || argument.equals("false")) {
-            return argument.equals("true");
-        }
-        return Integer.valueOf(argument);
-    }
-
-    private String answerOf(String name, List<Object> arguments) {
-        calls++;
-        for (Method method : WidthMinimizer.class.getMethods()) {
-            if (method.getName().equals(name) && method.getDeclaringClass() == WidthMinimizer.class) {
-                try {
-                    return String.valueOf(method.invoke(object, arguments.toArray()));
-                } catch (InvocationTargetException e) {
-                    return "throws." + e.getCause().getClass().getSimpleName();
-                } catch (IllegalAccessException e) {
-                    return "no access";
-                }
-            }
-        }
-        return "no such method";
-    }
-
-    private String everything() {
-        StringBuilder all = new StringBuilder();
-        int count = object.count();
-        all.append(count).append(' ').append(answer("rounds()")).append(' ').append(answer("units()"));
-        for (int what = 0; what <= 4; what++) {
-            all.append(' ').append(answer("total(" + what + ")"));
-        }
-        for (int level = 0; level <= 2; level++) {
-            all.append(' ').append(answer("fault(" + level + ", 0)"));
-            all.append(' ').append(answer("fault(" + level + ", 1)"));
-        }
-        for (int i = 0; i < count; i++) {
-            for (int what = 0; what <= 6; what++) {
-                all.append(' ').append(answer("signal(" + i + ", " + what + ")"));
-            }
-            all.append(' ').append(answer("value(" + i + ", false)"));
-            all.append(' ').append(answer("value(" + i + ", true)"));
-        }
-        return all.toString();
+    private String make(Call call) {
+        calls.add(call);
+        return call.answerOf(object);
     }
 }

@@ -98,7 +98,7 @@ public final class SnapshotTest {
         Script.run("promise 29: no snapshot", """
             add(1, 7, 0, 0) = 0
             ! restoreSnapshot() = throws.IllegalStateException
-            ! saveSnapshot() = 1
+            saveSnapshot() = 1
             ! restoreSnapshot() = 1
             """);
         Script.finish();
