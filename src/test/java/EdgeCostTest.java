@@ -11,6 +11,7 @@ public final class EdgeCostTest {
         increases();
         ties();
         phases();
+        foundAnew();
         numbersOfUnits();
         unitOf();
         questions();
@@ -258,6 +259,35 @@ public final class EdgeCostTest {
             unit(0, 0) = 5
             unit(1, 0) = 3
             unit(2, 0) = 4
+            """);
+    }
+
+    private static void foundAnew() {
+        products("18: units are found anew, narrower than before", new int[][] {{8, 0, 0}, {3, 0, 1}}, """
+            unit(0, 1) = 8
+            setOutput(2, false) = true
+            units() = 1
+            unit(0, 1) = 3
+            unit(0, 2) = 9
+            unit(0, 3) = 1
+            unit(0, 4) = 4
+            """);
+        products("18: units are found anew, with other phases", new int[][] {{8, 0, 0}, {8, 0, 1}}, """
+            units() = 2
+            setOutput(2, false) = true
+            setPhase(4, 1) = 0
+            units() = 1
+            unitOf(4) = 0
+            unit(0, 3) = 1
+            unit(0, 2) = 64
+            ! unit(1, 0) = throws.IndexOutOfBoundsException
+            """);
+        products("18: no units are left", new int[][] {{8, 0, 0}, {8, 1, 0}}, """
+            units() = 1
+            clear() = 5
+            units() = 0
+            total(2) = 0
+            ! unit(0, 0) = throws.IndexOutOfBoundsException
             """);
     }
 

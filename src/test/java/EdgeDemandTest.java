@@ -20,6 +20,7 @@ public final class EdgeDemandTest {
         shiftsToTheRight();
         lessAndChoice();
         smallestSets();
+        longestWay();
         widthsAndSigns();
         signals();
         Script.finish();
@@ -343,6 +344,22 @@ public final class EdgeDemandTest {
             demanded(3) = 1
             demanded(2) = 0
             """);
+        Script.run("12: only the operands are asked, not the signal whose number stands in place of a third one", """
+            add(0, 0, 7, 0) = 0
+            add(0, 0, 7, 0) = 1
+            add(0, 0, 7, 0) = 2
+            add(11, 1, 2, 0) = 3
+            setOutput(3, true) = false
+            demanded(1) = 7
+            demanded(2) = 7
+            demanded(0) = 0
+            setOutput(3, false) = true
+            add(9, 1, 2, 0) = 4
+            setOutput(4, true) = false
+            demanded(1) = 7
+            demanded(2) = 0
+            demanded(0) = 0
+            """);
         Script.run("12: one signal as a and b of a choice", """
             add(0, 0, 255, 0) = 0
             add(12, 0, 0, 0) = 1
@@ -390,6 +407,28 @@ public final class EdgeDemandTest {
             demanded(3) = 4095
             demanded(1) = 4095
             demanded(2) = 2047
+            """);
+    }
+
+    private static void longestWay() {
+        StringBuilder registers = new StringBuilder();
+        for (int i = 0; i < 18; i++) {
+            registers.append("add(2, 0, 0, 0) = ").append(i).append('\n');
+        }
+        registers.append("add(0, 0, 4095, 0) = 18\nadd(10, 0, 1, 0) = 19\nadd(7, 18, 19, 0) = 20\n");
+        for (int i = 0; i < 17; i++) {
+            registers.append("setNext(").append(i).append(", ").append(i + 1).append(") = ").append(i).append('\n');
+        }
+        Script.run("12: each bit leads through all registers to the next one", registers + """
+            setNext(17, 20) = 17
+            add(1, 1, 0, 0) = 21
+            add(6, 0, 21, 0) = 22
+            setOutput(22, true) = false
+            width(0, true) = 12
+            demanded(0) = 4095
+            demanded(17) = 4095
+            demanded(18) = 4095
+            demanded(19) = 2047
             """);
     }
 

@@ -97,6 +97,15 @@ public final class EdgeRangeTest {
             range(13, false) = MIN
             range(13, true) = MIN
             """);
+        over("10: the least product is that of the least values", 5, from(2, 3), from(5, 7), 10, 21);
+        over("10: the least product is that of the greatest values", 5, from(-3, -2), from(-7, -5), 10, 21);
+        over("10: the least product is that of a least and a greatest value", 5, from(-3, -2), from(5, 7), -21, -10);
+        over("10: both signs in one range", 5, from(-3, 2), from(5, 7), -21, 14);
+        over("10: both signs in one range", 5, from(-3, 2), from(-7, -5), -14, 21);
+        over("10: both signs in both ranges, the greatest product is that of the least values", 5, from(-3, 2),
+                from(-7, 5), -15, 21);
+        over("10: both signs in both ranges, the greatest product is that of the greatest values", 5, from(-2, 3),
+                from(-5, 7), -15, 21);
         Script.run("10: the least and the greatest of all four products", """
             add(0, -4096, 4095, 0) = 0
             add(5, 0, 0, 0) = 1

@@ -94,6 +94,7 @@ public final class EdgeSnapshotTest {
             "setNext(1, 0) = 2\n", "setOutput(4, false) = true\n", "setOutput(0, true) = false\n", "setPhase(5, 1) = 3\n",
             "setPhase(0, 1) = 0\n", "setInput(0, -3) = 12\n", "run(200) = 0\n", "restart() = 9\n", "restart() = 9\nrun(9) = 0\n",
             "text(\"o0;n1:0\") = 7\nread() = 2\n", "", "removeLast() = 12\nremoveLast() = 5\nadd(0, 3, 4, 0) = 5\nrun(1) = 0\n",
+            "removeLast() = 12\nadd(12, 1, 2, 3) = 6\nsetOutput(6, true) = false\n",
         };
         String due = Probe.after(Script.callsOf("28: the state as saved", STANDING + "saveSnapshot() = 7\n"));
         for (String change : changes) {
