@@ -7,14 +7,35 @@ import java.util.TreeSet;
 /** The class shows the document's face and nothing else. */
 public final class FaceTest {
     private static final String[] FACE = {
-        "int add(int,int,int,int)", "int removeLast()", "int setNext(int,int)",
-        "boolean setOutput(int,boolean)", "int setPhase(int,int)", "int signal(int,int)",
-        "int count()", "int clear()", "int range(int,boolean)", "int rounds()", "int demanded(int)",
-        "int width(int,boolean)", "boolean isSigned(int)", "int cost(int)", "int total(int)",
-        "double share()", "int units()", "int unit(int,int)", "int unitOf(int)",
-        "int setInput(int,int)", "int run(int)", "int value(int,boolean)", "int restart()",
-        "int feed(char)", "int read()", "int fault(int,int)", "int saveSnapshot()",
-        "int restoreSnapshot()",
+        "int add(int,int,int,int) throws IllegalArgumentException,IndexOutOfBoundsException,IllegalStateException",
+        "int removeLast() throws NoSuchElementException",
+        "int setNext(int,int) throws IndexOutOfBoundsException,UnsupportedOperationException",
+        "boolean setOutput(int,boolean) throws IndexOutOfBoundsException",
+        "int setPhase(int,int) throws IndexOutOfBoundsException,IllegalArgumentException",
+        "int signal(int,int) throws IndexOutOfBoundsException,IllegalArgumentException",
+        "int count()",
+        "int clear()",
+        "int range(int,boolean) throws IndexOutOfBoundsException",
+        "int rounds()",
+        "int demanded(int) throws IndexOutOfBoundsException",
+        "int width(int,boolean) throws IndexOutOfBoundsException",
+        "boolean isSigned(int) throws IndexOutOfBoundsException",
+        "int cost(int) throws IndexOutOfBoundsException",
+        "int total(int) throws IllegalArgumentException",
+        "double share() throws ArithmeticException",
+        "int units()",
+        "int unit(int,int) throws IndexOutOfBoundsException,IllegalArgumentException",
+        "int unitOf(int) throws IndexOutOfBoundsException,NoSuchElementException",
+        "int setInput(int,int)"
+                + " throws IndexOutOfBoundsException,UnsupportedOperationException,IllegalArgumentException",
+        "int run(int) throws IllegalArgumentException",
+        "int value(int,boolean) throws IndexOutOfBoundsException",
+        "int restart()",
+        "int feed(char) throws IllegalStateException",
+        "int read()",
+        "int fault(int,int) throws IllegalArgumentException,NoSuchElementException",
+        "int saveSnapshot()",
+        "int restoreSnapshot() throws IllegalStateException",
     };
 
     public static void main(String[] args) {
@@ -60,6 +81,12 @@ public final class FaceTest {
             line.append(comma).append(type.getSimpleName());
             comma = ",";
         }
-        return line.append(')').toString();
+        line.append(')');
+        String before = " throws ";
+        for (Class<?> type : method.getExceptionTypes()) {
+            line.append(before).append(type.getSimpleName());
+            before = ",";
+        }
+        return line.toString();
     }
 }
